@@ -8,8 +8,10 @@ public final class TalePlay {
     private static final int ROOM = 0, THING = 1, DOOR = 2, BOX = 3, STAND = 4, PERSON = 5;
     private static final int OPEN = 0, LOCKED = 1, LIT = 2, FIXED = 3, GARMENT = 4, GLASS = 5, FLAGS = 6;
     private static final int IN = 0, ON = 1, HELD = 2, WORN = 3, PART = 4, EXIT = 5, FLAG = 6, KEY = 7;
+    /** The acts; UNCLOSE is OPEN, whose name the flag has. */
     private static final int GO = 0, TAKE = 1, DROP = 2, PUT_IN = 3, PUT_ON = 4, UNCLOSE = 5, CLOSE = 6,
             UNLOCK = 7, LOCK = 8, WEAR = 9, ENTER = 10, LEAVE = 11, WAIT = 12;
+    /** Why acts are not done. */
     private static final int DONE = 0, NOT_BY_ROOM = 1, NO_WAY = 2, NOT_OPEN = 3, UNSEEN = 4, AROUND_HIM = 5,
             HAS_IT = 6, NOT_FOR_HANDS = 7, NOT_REACHED = 8, ANOTHERS = 9, TOO_MUCH = 10, NOT_HELD = 11,
             UNFIT = 12, IN_ITSELF = 13, EIGHT_THERE = 14, IS_OPEN = 15, IS_LOCKED = 16, NOT_LOCKED = 17,
@@ -634,7 +636,10 @@ public final class TalePlay {
         }
     }
 
-    /** Where objects are and what their flags are, a cell for each: form, holder, flags. */
+    /**
+     * Where objects are and what their flags are, packed into one number for each: an act then changes one number, so
+     * that turns are undone and states are told apart by few looks.
+     */
     private static final class Scene {
         static final int PLACE_BITS = 8, PLACE_MASK = 255, NOWHERE = 255, NO_FORM = 7, NO_HOLDER = 31;
         final World world;
@@ -672,7 +677,6 @@ public final class TalePlay {
             return (cells[object] >> PLACE_BITS + flag & 1) == 1;
         }
 
-        /** Whether one comes to the one by going up from the other. */
         boolean isUp(int above, int below) {
             int o = holderOf(below);
             for (int up = 0; up < MOST_OBJECTS && o != NONE; up++) {
@@ -919,23 +923,24 @@ public final class TalePlay {
         Roads(World world, Book book) {
             this.world = world;
             this.book = book;
-            Arrays.fill(leads, NONE);
-            Arrays.fill(doors, NONE);
-            Arrays.fill(bys, NONE);
-            Arrays.fill(firstSides, NONE);
-            Arrays.fill(secondSides, NONE);
+            wipe();
         }
 
-        void redrawFor(int form) {
-            if (form != EXIT) {
-                return;
-            }
+        private void wipe() {
             Arrays.fill(leads, NONE);
             Arrays.fill(doors, NONE);
             Arrays.fill(bys, NONE);
             Arrays.fill(implied, 0);
             Arrays.fill(firstSides, NONE);
             Arrays.fill(secondSides, NONE);
+        }
+
+        /** Drawn whole each time: one sentence may lay bare or hide what others imply. */
+        void redrawFor(int form) {
+            if (form != EXIT) {
+                return;
+            }
+            wipe();
             drawSaid();
             drawImplied();
             drawThroughDoors();

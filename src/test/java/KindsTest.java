@@ -12,6 +12,7 @@ public final class KindsTest {
         sorts();
         bulks();
         bulksInTales();
+        firstObject();
         traceOfNested();
         shares();
         due.done();
@@ -170,6 +171,8 @@ public final class KindsTest {
         due.be("trace(1) of NOUGHT", x.trace(1), 1);
         due.be("trace(2) of NOUGHT", x.trace(2), NONE);
         due.be("asked() stays by NOUGHT", x.asked(), 14);
+        int feather = x.make(1, 0);
+        bulkIs(x, feather, 0, 1);
         int wide = x.make(2, 99);
         bulkIs(x, wide, 1, 4, 1);
         x.say(1, 1, 4, 0);
@@ -205,6 +208,18 @@ public final class KindsTest {
         bulkIs(x, box, 4, 2, 1);
         x.say(6, box, 5, 1);
         bulkIs(x, box, 7, 2, 1, 1);
+    }
+
+    /** Number 0 may be any sort of object. */
+    private static void firstObject() {
+        TalePlay x = new TalePlay();
+        int nut = x.make(1, 3);
+        int box = x.make(3, 2);
+        x.say(0, nut, box, 0);
+        bulkIs(x, box, 5, 2, 1, 1);
+        shareIs(x, box, box, 1666);
+        x.unsay(0);
+        due.find("share(box, box) of none", x, x.share(box, box), NOUGHT);
     }
 
     private static void traceOfNested() {

@@ -53,8 +53,10 @@ public final class LinesTest {
         }
         due.find("line(0, 0, -1): what is refused leaves it", x, x.line(0, 0, -1), SIZE);
         itemIs(x, 0, BYTES, 11, 5);
+        x.put(0, BYTES, 0, 6);
         due.be("line(0, BYTES, 12) anew", x.line(0, BYTES, 12), 12);
         itemIs(x, 0, BYTES, 11, 0);
+        itemIs(x, 0, BYTES, 0, 0);
         due.be("line(1, LONGS, 2)", x.line(1, LONGS, 2), 2);
         due.find("item(1, INTS, 0)", x, x.item(1, INTS, 0), UNLIKE);
         itemIs(x, 1, LONGS, 1, 0);

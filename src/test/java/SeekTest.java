@@ -15,6 +15,7 @@ public final class SeekTest {
         leastByXAndY();
         statesTriedFrom();
         threeHundredStates();
+        firstObject();
         playStaysTold();
         bulksCount();
         due.done();
@@ -192,6 +193,22 @@ public final class SeekTest {
         due.be("seek the second in 24", x.seek(second, 1, 24), NONE);
         due.be("act OPEN", x.act(UNCLOSE, box, 0), 0);
         playIs(x, "seek the third behind it", x.seek(third, 1, 300), does(TAKE, third, 0));
+    }
+
+    /** Number 0 may be any sort of object; states differ by its place, too. */
+    private static void firstObject() {
+        TalePlay x = new TalePlay();
+        int nut = x.make(THING, 1);
+        int room = x.make(ROOM, 0);
+        int man = x.make(PERSON, 1);
+        int box = x.make(BOX, 1);
+        x.say(IN, nut, room, 0);
+        x.say(IN, man, room, 0);
+        x.say(IN, box, room, 0);
+        x.say(FLAG, box, 3, 1);
+        x.begin(man);
+        playIs(x, "seek(nut, box, 300)", x.seek(nut, box, 300), does(TAKE, nut, 0), does(UNCLOSE, box, 0),
+                does(PUT_IN, nut, box));
     }
 
     private static void playStaysTold() {

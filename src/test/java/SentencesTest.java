@@ -220,6 +220,7 @@ public final class SentencesTest {
         clashIs(x, "say(EXIT, 0, 4, 5)", x.say(EXIT, 0, 4, 5), 3);
         clashIs(x, "say(EXIT, 0, 4, 2): the direction first", x.say(EXIT, 0, 4, 2), 0);
         due.be("say(EXIT, 3, 4, 7)", x.say(EXIT, 3, 4, 7), 4);
+        due.be("clash(0) of a second side", x.clash(0), NONE);
         clashIs(x, "say(EXIT, 1, 4, 5)", x.say(EXIT, 1, 4, 5), 3, 4);
         clashIs(x, "say(EXIT, 3, 4, 1)", x.say(EXIT, 3, 4, 1), 4);
         due.be("unsay(3)", x.unsay(3), 4);
@@ -227,6 +228,12 @@ public final class SentencesTest {
         clashIs(x, "say(EXIT, 0, 4, 0)", x.say(EXIT, 0, 4, 0), 4, 5);
         due.be("say(EXIT, 0, 5, 0)", x.say(EXIT, 0, 5, 0), 6);
         due.be("say(EXIT, 2, 2, 0): to itself", x.say(EXIT, 2, 2, 0), 7);
+        TalePlay y = rooms(3, 1);
+        due.be("say(EXIT, 0, 3, 0)", y.say(EXIT, 0, 3, 0), 0);
+        due.be("say(EXIT, 1, 3, 0)", y.say(EXIT, 1, 3, 0), 1);
+        exitIs(y, 0, 0, 1, 3, 0, 0);
+        exitIs(y, 1, 0, 0, 3, 1, 0);
+        clashIs(y, "say(EXIT, 2, 3, 0)", y.say(EXIT, 2, 3, 0), 0, 1);
     }
 
     private static void flagClashes() {
@@ -267,12 +274,19 @@ public final class SentencesTest {
         due.be("unsay(2)", x.unsay(2), 2);
         due.be("exit(6, 1, 0)", x.exit(6, 1, 0), NONE);
         due.be("exit(0, 0, 0)", x.exit(0, 0, 0), NONE);
+        wayIs(x, 0, 6, false, NONE, NONE);
+        wayIs(x, 6, 0, false, NONE, NONE);
         due.be("unsay(0)", x.unsay(0), 1);
         due.be("unsay(0) again", x.unsay(0), BAD);
         due.be("place(1, 0)", x.place(1, 0), NONE);
         due.be("place(7, 2)", x.place(7, 2), 1);
         due.be("count(2)", x.count(2), 1);
         due.be("count(3)", x.count(3), 3);
+        x.say(EXIT, 0, 2, 4);
+        x.unsay(3);
+        x.say(EXIT, 0, 6, 4);
+        exitIs(x, 0, 4, 6, NONE, 4, 0);
+        wayIs(x, 0, 6, true, 1, 4);
     }
 
     private static void parts() {

@@ -35,6 +35,7 @@ public final class TalesTest {
         sightFromWithin();
         reachThroughGlass();
         doorsInSight();
+        firstObject();
         due.done();
     }
 
@@ -921,6 +922,41 @@ public final class TalesTest {
         act(x, UNCLOSE, pane, 0, 0);
         sight(x, cup, 1, 1);
         sight(x, door, 1, 1);
+    }
+
+    /** Number 0 may be any sort of object. */
+    private static void firstObject() {
+        TalePlay x = new TalePlay();
+        int stand = x.make(STAND, 1);
+        int room = x.make(ROOM, 0);
+        int man = x.make(PERSON, 1);
+        x.say(IN, stand, room, 0);
+        x.say(IN, man, room, 0);
+        x.begin(man);
+        sight(x, stand, 1, 1);
+        act(x, TAKE, stand, 0, 0);
+        act(x, DROP, stand, 0, 0);
+        act(x, ENTER, stand, 0, 0);
+        lies(x, man, ON, stand);
+        act(x, LEAVE, 0, 0, 0);
+        lies(x, man, IN, room);
+        TalePlay y = new TalePlay();
+        int hat = y.make(THING, 1);
+        int box = y.make(BOX, 1);
+        int hall = y.make(ROOM, 0);
+        int other = y.make(PERSON, 1);
+        y.say(IN, other, hall, 0);
+        y.say(IN, box, hall, 0);
+        y.say(IN, hat, box, 0);
+        flag(y, box, OPEN, 1);
+        for (int i = 0; i < 7; i++) {
+            thing(y, THING, 1, IN, box);
+        }
+        int last = thing(y, THING, 1, HELD, other);
+        y.begin(other);
+        act(y, PUT_IN, last, box, 14);
+        act(y, TAKE, hat, 0, 0);
+        act(y, PUT_IN, last, box, 0);
     }
 
     private static void doorsInSight() {

@@ -1,6 +1,7 @@
 /** Holds answers against those that are due; a test ends with done(). */
 final class Due {
     private final String test;
+    private String sentence = "";
     private int asked = 0;
     private int wrong = 0;
 
@@ -8,11 +9,16 @@ final class Due {
         this.test = test;
     }
 
+    /** The words of the document that the next answers hold; of promise 0: those of its terms. */
+    void sentence(int promise, String words) {
+        sentence = " [" + promise + ": " + words + "]";
+    }
+
     void be(String call, long got, long want) {
         asked++;
         if (got != want) {
             wrong++;
-            System.out.println(test + ": " + call + " answered " + got + ", due is " + want);
+            System.out.println(test + sentence + ": " + call + " answered " + got + ", due is " + want);
         }
     }
 

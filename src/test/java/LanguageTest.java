@@ -1,4 +1,6 @@
 import java.io.IOException;
+import java.lang.reflect.Method;
+import java.lang.reflect.Modifier;
 import java.nio.file.Files;
 import java.nio.file.Path;
 import java.util.regex.Matcher;
@@ -28,6 +30,7 @@ public final class LanguageTest {
                 - count(code, "private static final class") - 1, 0);
         due.be("classes: twelve at most", count(code, "\\bclass\\b") <= 12 ? 1 : 0, 1);
         longMethods(code);
+        namesOfTheFace(code);
         due.done();
     }
 
@@ -38,6 +41,16 @@ public final class LanguageTest {
             n++;
         }
         return n;
+    }
+
+    /** No method that is not of the face bears the name of one that is. */
+    private static void namesOfTheFace(String code) {
+        for (Method m : TalePlay.class.getDeclaredMethods()) {
+            if (Modifier.isPublic(m.getModifiers())) {
+                String head = "\\n[\\w\\[\\] ]+ " + m.getName() + "\\([^)]*\\) \\{";
+                due.be("methods named " + m.getName(), count(code, head), 1);
+            }
+        }
     }
 
     private static void longMethods(String code) {

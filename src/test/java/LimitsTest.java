@@ -6,6 +6,7 @@ public final class LimitsTest {
     public static void main(String[] args) {
         mostKinds();
         mostObjects();
+        actsWithMostObjects();
         leastAndMostSize();
         longestTrace();
         deepestBulk();
@@ -79,6 +80,32 @@ public final class LimitsTest {
         due.be("say(2, 27, 29, 0)", x.say(2, 27, 29, 0), 2);
         due.be("share(27, 29)", x.share(27, 29), 1);
         due.be("asked()", x.asked(), 1000);
+    }
+
+    /** A room, a man, an open box, a stand, 25 things that are fixed, and one that is not. */
+    private static void actsWithMostObjects() {
+        due.sentence(0, "OBJECTS 0, 1, .. (30 at most) are of a KIND");
+        TalePlay x = Worlds.roomAndMan();
+        int box = Worlds.thing(x, 3, 0, 0, 0);
+        int stand = Worlds.thing(x, 4, 0, 0, 0);
+        int rock = x.kind(1);
+        x.standard(rock, 3, 1);
+        x.standard(3, 0, 1);
+        for (int o = 4; o < 29; o++) {
+            Worlds.thing(x, rock, 0, 0, 0);
+        }
+        int last = Worlds.thing(x, 1, 0, 0, 0);
+        due.be("the last one", last, 29);
+        x.begin(1);
+        due.be("seek(last, stand, 300)", x.seek(last, stand, 300), 2);
+        due.be("seek(last, 4, 300): through all states", x.seek(last, 4, 300), NONE);
+        int[][] acts = {{1, last, 0}, {3, last, box}, {1, last, 0}, {4, last, stand}, {1, last, 0}, {2, last, 0},
+            {10, box, 0}, {6, box, 0}};
+        for (int[] a : acts) {
+            due.be("act(" + a[0] + ", " + a[1] + ", " + a[2] + ")", x.act(a[0], a[1], a[2]), 0);
+        }
+        due.be("now(last, 4): he is in a closed box", x.now(last, 4), 0);
+        due.be("now(28, 6)", x.now(28, 6), 0);
     }
 
     private static void leastAndMostSize() {

@@ -7,6 +7,7 @@ public final class SentenceEdgesTest {
     private static final Due due = new Due("SentenceEdgesTest");
 
     public static void main(String[] args) {
+        ofAnotherSort();
         whateverWasTold();
         alike();
         anotherPlace();
@@ -31,6 +32,7 @@ public final class SentenceEdgesTest {
         flagsInTales();
         keysAsSaid();
         waysByOpenDoors();
+        waysFromElsewhere();
         leastDirection();
         due.done();
     }
@@ -44,6 +46,37 @@ public final class SentenceEdgesTest {
         }
         due.be("the end of the clash of " + call, x.clash(row.length), NONE);
         due.be("count(3) behind " + call, x.count(3), all);
+    }
+
+    /** One object of each of the six kinds, then one of a kind two beneath each of them. */
+    private static TalePlay sorts() {
+        TalePlay x = new TalePlay();
+        for (int k = 0; k < 6; k++) {
+            x.make(k, 0);
+        }
+        for (int k = 0; k < 6; k++) {
+            x.make(x.kind(x.kind(k)), 0);
+        }
+        return x;
+    }
+
+    private static void ofAnotherSort() {
+        due.sentence(0, "Where a or b is an OBJECT of another sort: UNLIKE");
+        String[] as = {"1345", "1345", "134", "134", "134", "0", "", "134"};
+        String[] bs = {"03", "4", "5", "5", "12345", "02", "", "23"};
+        for (int form = IN; form <= KEY; form++) {
+            for (int a = 0; form != FLAG && a < 12; a++) {
+                for (int b = 0; b < 12; b++) {
+                    boolean fits = as[form].indexOf('0' + a % 6) >= 0 && bs[form].indexOf('0' + b % 6) >= 0;
+                    boolean inItself = a == b && form <= PART;
+                    TalePlay x = sorts();
+                    due.be("say(" + form + ", " + a + ", " + b + ", 0)", x.say(form, a, b, 0),
+                            !fits ? TalePlay.FINDING : inItself ? CLASH : 0);
+                    due.be("finding()", x.finding(), fits ? 0 : Worlds.UNLIKE);
+                    due.be("findings(UNLIKE)", x.findings(Worlds.UNLIKE), fits ? 0 : 1);
+                }
+            }
+        }
     }
 
     private static void whateverWasTold() {
@@ -475,6 +508,23 @@ public final class SentenceEdgesTest {
         way(x, 0, 1, true, 2, 8);
         way(x, 0, 1, false, 1, 9);
         way(x, 1, 0, true, 2, 6);
+    }
+
+    /** What an earlier walk came to is not on the way of the next one. */
+    private static void waysFromElsewhere() {
+        due.sentence(18, "How many EXITS it takes at least from a ROOM to another one");
+        TalePlay x = Worlds.rooms(6, 0);
+        Worlds.say(x, EXIT, 0, 1, 0);
+        Worlds.say(x, EXIT, 1, 2, 0);
+        Worlds.say(x, EXIT, 3, 4, 0);
+        way(x, 0, 2, false, 2, 0);
+        for (int far = 0; far < 3; far++) {
+            way(x, 3, far, false, NONE, NONE);
+            way(x, far, 3, false, NONE, NONE);
+            way(x, far, 5, true, NONE, NONE);
+            way(x, 5, far, true, NONE, NONE);
+        }
+        way(x, 3, 4, true, 1, 0);
     }
 
     private static void leastDirection() {

@@ -34,6 +34,7 @@ public final class TaleEdgesTest {
         orderOfTrying();
         statesByFlags();
         waitIsNotTried();
+        statesOfEarlierSeeks();
         playStaysTold();
         latestSeek();
         due.done();
@@ -691,6 +692,22 @@ public final class TaleEdgesTest {
         playIs(y, "seek(1, stand, 1)", y.seek(1, stand, 1), does(ENTER, stand, 0));
         act(y, ENTER, stand, 0, 0);
         playIs(y, "seek(1, 0, 1): LEAVE is the last one", y.seek(1, 0, 1), does(LEAVE, 0, 0));
+    }
+
+    /** A search begins anew: what an earlier one kept is none of its states. */
+    private static void statesOfEarlierSeeks() {
+        due.sentence(0, "the first is the present one .. when none is left");
+        TalePlay x = Worlds.roomAndMan();
+        int cup = Worlds.thing(x, THING, 1, IN, 0);
+        x.begin(1);
+        due.be("seek(0, cup, 300): two states", x.seek(0, cup, 300), NONE);
+        x.unsay(1);
+        x.begin(1);
+        due.be("seek(cup, 0, 300): it is nowhere", x.seek(cup, 0, 300), NONE);
+        due.be("seek(cup, 1, 300): it is nowhere", x.seek(cup, 1, 300), NONE);
+        Worlds.say(x, HELD, cup, 1, 0);
+        x.begin(1);
+        playIs(x, "seek(cup, 0, 300)", x.seek(cup, 0, 300), does(DROP, cup, 0));
     }
 
     private static void playStaysTold() {
